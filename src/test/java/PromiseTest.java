@@ -13,6 +13,7 @@ public final class PromiseTest {
         feed();
         text();
         faultsOfTokens();
+        faultsAtTheEnd();
         faultsOfDepth();
         values();
         force();
@@ -47,6 +48,9 @@ public final class PromiseTest {
         copy();
         unclesBy();
         taken();
+        fullWard();
+        fullWardAppointed();
+        suitedByOne();
         Due.end();
     }
 
@@ -97,13 +101,14 @@ public final class PromiseTest {
         fresh();
         x.child(1111);
         x.child(2222);
+        x.child(3333);
         x.uncle(0, 1111);
         x.appoint(1, 0);
         x.year();
         texts("suits 1; likes 1; tires 1;");
         x.force(1);
         x.feed(3, 1, 2, 3, 4, 5);
-        Due.is("count 0", x.count(0), 2);
+        Due.is("count 0", x.count(0), 3);
         Due.is("count 1", x.count(1), 1);
         Due.is("count 2", x.count(2), 1);
         Due.is("count 3", x.count(3), 1);
@@ -217,6 +222,9 @@ public final class PromiseTest {
         fault("suits 00001;likes 1;tires 1;", -106);
         fault("suits 1 2;likes 1;tires 1;", -108);
         fault("suits marks;likes 1;tires 1;", -106);
+        fault("suits markz;likes 1;tires 1;", -106);
+        fault("suits amark;likes 1;tires 1;", -106);
+        fault("suits mare;likes 1;tires 1;", -106);
         fault("suits Mark;likes 1;tires 1;", -106);
         fault("suits 1\t;likes 1;tires 1;", -107);
         fault("suits 1\r;likes 1;tires 1;", -107);
@@ -245,6 +253,21 @@ public final class PromiseTest {
         // Of two faults the first one, be it of a token or of where it stands.
         fault("suits 1 2;?", -108);
         fault("suits ? 1 2;", -106);
+    }
+
+    /** A text that fills THE TAPE, and one behind which the bytes of a longer one may still lie. */
+    private static void faultsAtTheEnd() {
+        String blanks = " ".repeat(160 - "suits 1;likes 1;tires 1;".length());
+        fault("suits 1;likes 1;tires 1;" + blanks, 1);
+        fault("suits 1;likes 1;" + blanks + "tires 12", -260);
+        fault("suits 1;likes 1;" + blanks + "suits 12", -100 - 160 + 8);
+        fault("suits 1;likes 1;" + blanks + "tires or", -100 - 160 + 2);
+        fault("suits 1;likes 1;" + blanks + "tires ((", -260);
+        fresh();
+        Tape.read(x, "suits 12345678901234567890;");
+        Due.is("the tape ends in a number", Tape.read(x, "suits 12"), -108);
+        Tape.read(x, "suits marknnnnnnnnnnn;");
+        Due.is("the tape ends in a name", Tape.read(x, "suits mark"), -110);
     }
 
     private static void faultsOfDepth() {
@@ -1157,9 +1180,15 @@ public final class PromiseTest {
         Due.is("suited", x.drawn(0, 0), 2 + 2);
         x.appoint(2, 0);
         Due.is("whoever has whom now", x.drawn(0, 1), 210);
-        // Seed 99999: 532132506 by 3 is 0, ..
         long lot = 100000L * 48271L % 2147483647L;
         Due.is("the first of the last seed", x.drawn(99999, 1) / 100, lot % 3 + 1);
+        fresh();
+        x.child(1000);
+        x.child(2000);
+        x.uncle(0, 3000);
+        Due.is("one uncle", x.drawn(5, 1), 10);
+        x.uncle(50, 3000);
+        Due.is("an aunt has no room", x.drawn(0, 1), 1);
     }
 
     // 30
@@ -1441,5 +1470,101 @@ public final class PromiseTest {
         Due.is("place 12", x.taken(12, 0), -12);
         Due.is("place low", x.taken(LOW, 6), -12);
         Due.is("place high", x.taken(HIGH, 6), -12);
+    }
+
+    /** Six of both: each UNCLE SUITS by 9, 18, 27, 36, 45, 54 whom he SUITS at all. */
+    private static void sixOfBoth() {
+        fresh();
+        int[] needs = {9000, 900, 90, 9, 9900, 99};
+        int[] marks = {1000, 200, 30, 4, 5000, 6};
+        for (int i = 0; i < 6; i++) {
+            x.child(needs[i]);
+            x.uncle(0, marks[i]);
+        }
+    }
+
+    private static void fullWard() {
+        sixOfBoth();
+        Due.is("all", x.all(), 0);
+        Due.is("count 3", x.count(3), 0);
+        Due.is("best row", x.best(0), 123456);
+        Due.is("best", x.best(1), 189);
+        // 4 asks 4, 1, 0: the first two like 0 and 1 more; 5 asks 5, who likes 3 more, and 3.
+        Due.is("settled", x.settled(0), 523614);
+        Due.is("settled", x.settled(1), 189);
+        Due.is("settled", x.settled(2), 6);
+        Due.is("would", x.would(0), 0);
+        Due.is("would", x.would(1), 0);
+        Due.is("swap", x.swap(0), -1);
+        Due.is("ranks", x.ranks(5), 643125);
+        Due.is("spare", x.spare(0), 0);
+        Due.is("spare", x.spare(1), 180);
+        // The lots by 6: 1, 0, 0, 1, 1, 5.
+        Due.is("drawn", x.drawn(0, 1), 210006);
+        Due.is("drawn", x.drawn(0, 0), 54);
+        x.put(5, 1, 1);
+        Due.is("spare the last", x.spare(0), 0);
+        Due.is("spare the last", x.spare(1), 9 * (2 + 3 + 4 + 5 + 1));
+        x.put(0, 1, 9000);
+        Due.is("spare the last", x.spare(0), 5);
+        Due.is("spare the last", x.spare(1), 9 * (9 + 2 + 3 + 4 + 5));
+    }
+
+    private static void fullWardAppointed() {
+        sixOfBoth();
+        x.film(0, 5);
+        for (int i = 0; i < 6; i++) {
+            Due.is("appoint", x.appoint(i, i), -1);
+        }
+        Due.is("count 3", x.count(3), 6);
+        Due.is("all", x.all(), 189);
+        Due.is("would", x.would(0), 0);
+        Due.is("would", x.would(1), 4);
+        Due.is("swap", x.swap(0), -1);
+        Due.is("swap", x.swap(1), 189);
+        Due.is("judge", x.judge(0, 5), -1);
+        Due.is("judge", x.judge(0, 4), 0);
+        Due.is("whose", x.whose(0), 32);
+        Due.is("marks", x.marks(0, 5, 3), 1 << 6);
+        Due.is("kinds", x.kinds(0, 5, 0), 1 + 2 + 32);
+        x.image();
+        Due.is("run", x.run(1, 15), 89);
+        Due.is("run", x.run(1, 25), 5);
+        Due.is("year", x.year(), 66);
+        Due.is("the last child", x.told(5, 0), 89);
+        Due.is("the last uncle", x.told(5, 2), 5);
+        x.back();
+        for (int i = 4; i < 6; i++) {
+            x.appoint(i, -1);
+        }
+        x.appoint(4, 5);
+        x.appoint(5, 4);
+        Due.is("all", x.all(), 90);
+        Due.is("swap the last two", x.swap(0), 45);
+        Due.is("swap the last two", x.swap(1), 189);
+        x.back();
+        Due.is("the last child", x.told(5, 0), 99);
+        Due.is("the last uncle", x.told(5, 2), 6);
+        Due.is("who has whom", x.told(5, 1), 5);
+    }
+
+    /** By 1 is by more than 0; by 0 isn't. */
+    private static void suitedByOne() {
+        fresh();
+        x.child(1000);
+        x.child(1);
+        x.uncle(0, 1000);
+        Due.is("would", x.would(0), 0);
+        Due.is("settled", x.settled(0), 10);
+        Due.is("best", x.best(0), 10);
+        x.appoint(0, 0);
+        Due.is("year", x.run(1, 0), 1);
+        x.appoint(0, -1);
+        x.appoint(1, 0);
+        Due.is("year", x.run(1, 0), 2);
+        x.put(0, 0, 0);
+        Due.is("would", x.would(0), -1);
+        Due.is("settled", x.settled(0), 0);
+        Due.is("best", x.best(0), 0);
     }
 }
