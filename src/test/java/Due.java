@@ -2,15 +2,21 @@
 final class Due {
     private static int asked = 0;
     private static int wrong = 0;
+    private static String sentence = "";
 
     private Due() {
+    }
+
+    /** The sentence of the document that the answers from here on are due by. */
+    static void by(String words) {
+        sentence = words;
     }
 
     static void is(String call, long got, long want) {
         asked++;
         if (got != want) {
             wrong++;
-            System.out.println(call + " answered " + got + ", due is " + want);
+            System.out.println(call + " answered " + got + ", due is " + want + told());
         }
     }
 
@@ -18,8 +24,12 @@ final class Due {
         asked++;
         if (!holds) {
             wrong++;
-            System.out.println("it doesn't hold: " + what);
+            System.out.println("it doesn't hold: " + what + told());
         }
+    }
+
+    private static String told() {
+        return sentence.isEmpty() ? "" : ", by: " + sentence;
     }
 
     static boolean isAnyWrong() {
