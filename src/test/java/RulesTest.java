@@ -25,6 +25,8 @@ public final class RulesTest {
         "Exact\\b", "\\bSystem\\.(?!arraycopy)", "\\bObject\\b", "\\bnative\\b", "\\bvolatile\\b", "\"\\s*\\+", "\\+\\s*\"",
         "\\bwhile\\s*\\(true", "for\\s*\\(;;");
 
+    private static final Set<String> LIBRARY = Set.of("Math.max", "Math.min", "Integer.bitCount", "Arrays.fill", "System.arraycopy");
+
     private RulesTest() {
     }
 
@@ -111,6 +113,10 @@ public final class RulesTest {
             Due.holds("import " + imports.group(1), imports.group(1).equals("java.util.Arrays"));
         }
         Due.holds("no package", !code.contains("package "));
+        Matcher used = Pattern.compile("\\b([A-Z]\\w*[a-z]\\w*)\\.(\\w+)").matcher(code);
+        while (used.find()) {
+            Due.holds("the library: " + used.group(), used.group(1).equals("Sheet") || LIBRARY.contains(used.group()));
+        }
         Matcher made = Pattern.compile("\\bnew \\w+").matcher(code);
         Set<String> all = new TreeSet<>();
         while (made.find()) {
