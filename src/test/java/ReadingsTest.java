@@ -31,6 +31,8 @@ public final class ReadingsTest {
         filmedThen();
         toldByYearAndLaw();
         sixOfThem();
+        yearOfWhomItHas();
+        settledOfTheLastUncle();
         Due.end();
     }
 
@@ -553,6 +555,43 @@ public final class ReadingsTest {
         Due.is("all alike", x.spare(1), 0);
         for (int seed = 0; seed < 30; seed++) {
             Due.is("one of six", x.drawn(seed, 1), (seed + 1) * 48271 % 6 + 1);
+        }
+    }
+
+    private static void yearOfWhomItHas() {
+        Due.by("A YEAR: of those that have an UNCLE: if he (whom it has) SUITS it by more than 0; each MARK of his");
+        x = Wards.of(Wards.needs(9000, 9000, 9000), 0, 0, 0, 9000, 0, 5);
+        Wards.law(x, "mark*need", "0", "1");
+        x.appoint(0, 1);
+        x.appoint(1, 2);
+        x.appoint(2, 0);
+        Due.is("by whom the first has", x.run(1, 10), 8000);
+        Due.is("by whom the second has", x.run(1, 11), 9000);
+        Due.is("by whom the third has", x.run(1, 12), 9000);
+        Due.is("the first one's marks", x.run(1, 20), 0);
+        Due.is("the second one's marks", x.run(1, 21), 8000);
+        Due.is("the third one's marks", x.run(1, 22), 4);
+        x.put(0, 1, 1000);
+        Due.is("by whom the third has then", x.run(1, 12), 8000);
+        Due.is("truly", x.year(), 25);
+        Due.is("truly, the first", x.told(0, 0), 8000);
+        Due.is("truly, the second", x.told(1, 0), 9000);
+        Due.is("truly, the third", x.told(2, 0), 8000);
+    }
+
+    private static void settledOfTheLastUncle() {
+        Due.by("he lets go of those the one he LIKES least, of like ones the greatest number");
+        int[] ofLikeOnes = {100000, 110000, 111000, 111100};
+        int[] more = {0, 15, 30, 35};
+        for (int u = 0; u < 6; u++) {
+            for (int i = 0; i < more.length; i++) {
+                x = Wards.of(Wards.needs(1000, 1000, 1000, 1000, 1000, 1000));
+                for (int v = 0; v < 6; v++) {
+                    x.uncle(v == u ? more[i] : 0, v == u ? 9999 : 0);
+                }
+                Wards.law(x, "mark", "5", "0");
+                Due.is("all like him, he likes all alike: " + u, x.settled(0), ofLikeOnes[i] * (u + 1));
+            }
         }
     }
 }
