@@ -593,5 +593,10 @@ public final class ReadingsTest {
                 Due.is("all like him, he likes all alike: " + u, x.settled(0), ofLikeOnes[i] * (u + 1));
             }
         }
+        // 2 takes uncle 1 from 0, which asks uncle 0 then, who keeps 1 and likes both alike.
+        x = Wards.of(Wards.needs(5000, 500, 1000), 0, 8900, 0, 9000);
+        Due.is("the one that asks the first uncle has the lesser number", x.settled(0), 102);
+        x.put(0, 0, 5001);
+        Due.is("he likes it by 1 less", x.settled(0), 12);
     }
 }
